@@ -85,7 +85,7 @@ public final class LearningSolver {
         scratch.copyFrom(solutions);
         blamed = narrowToAssumptions();
         found = blamed == NONE;
-        leastValues = found ? narrowToLeast() : 0;
+        leastValues = found ? scratch.leastRow() : 0;
         variablesThen = variables;
         assumedCount = 0;
         return found;
@@ -165,30 +165,15 @@ public final class LearningSolver {
 
     /** How many assumptions it takes until no row is left; NONE if a row fits them all. */
     private int narrowToAssumptions() {
-        if (scratch.count() == 0) {
+        if (!scratch.anyIn(0, 1, -1L)) {
             return 0;
         }
         for (int i = 0; i < assumedCount && i < assumed.length; i++) {
-            if (!scratch.anyWith(assumed[i])) {
+            if (!scratch.keepWith(assumed[i])) {
                 return i + 1;
             }
-            scratch.keepWith(assumed[i]);
         }
         return NONE;
-    }
-
-    /** The least row that is left, variable v at bit v. */
-    private int narrowToLeast() {
-        int values = 0;
-        for (int v = 0; v < variables; v++) {
-            int isZero = 2 * v + 1;
-            if (scratch.anyWith(isZero)) {
-                scratch.keepWith(isZero);
-            } else {
-                values |= 1 << v;
-            }
-        }
-        return values;
     }
 
     /**
@@ -211,8 +196,7 @@ public final class LearningSolver {
 
         Rows() {
             words = new long[MOST_WORDS];
-            words[0] = -1L;
-            used = 1;
+            used = 0;
         }
 
         void holdAll() {
@@ -281,10 +265,54 @@ public final class LearningSolver {
             return false;
         }
 
-        void keepWith(int l) {
+        /** Whether any of these bits is set in one of the words first, first + distance, .. */
+        boolean anyIn(int first, int distance, long bits) {
+            if (first < 0 || distance < 1 || distance > MOST_WORDS) {
+                return false;
+            }
+            for (int w = first; w < used; w += distance) {
+                if ((words[w] & bits) != 0L) {
+                    return true;
+                }
+            }
+            return false;
+        }
+
+        /** Takes out the rows that have the literal false; whether a row is left. */
+        boolean keepWith(int l) {
+            long left = 0L;
             for (int w = 0; w < used; w++) {
                 words[w] &= rowsWith(l, w);
+                left |= words[w];
             }
+            return left != 0L;
+        }
+
+        /**
+         * The least row of a set that has one. The values of the inner variables are settled first,
+         * for all words at once, because those variables come first; then word numbers are.
+         */
+        int leastRow() {
+            long bits = 0L;
+            for (int w = 0; w < used; w++) {
+                bits |= words[w];
+            }
+            int inner = 0;
+            for (int v = 0; v < INNER_ONES.length; v++) {
+                long zeros = bits & ~INNER_ONES[v];
+                if (zeros != 0L) {
+                    bits = zeros;
+                } else {
+                    inner |= 1 << v;
+                }
+            }
+            int word = 0;
+            for (int one = 1; one < used && one < MOST_WORDS; one *= 2) {
+                if (!anyIn(word, 2 * one, bits)) {
+                    word |= one;
+                }
+            }
+            return word << INNER | inner;
         }
 
         void keepClause(int[] clause, int length) {

@@ -275,6 +275,16 @@ public final class PromisesTest {
         Check.same("under another", "100000001", leastRow(x, 9));
         Check.due("solve", false, solveWith(x, 15, 17));
         Check.same("after false", "---------", leastRow(x, 9));
+        for (int first = 0; first < 15; first++) {
+            for (int second = first + 1; second < 16; second++) {
+                LearningSolver two = with(16);
+                clause(two, 2 * second, 2 * first);
+                Check.due("solve", true, two.solve());
+                StringBuilder want = new StringBuilder("0000000000000000");
+                want.setCharAt(second, '1');
+                Check.same("the later of two is 1", want.toString(), leastRow(two, 16));
+            }
+        }
         for (int v : new int[] {-1, 9, 16, Integer.MAX_VALUE, Integer.MIN_VALUE}) {
             Check.due("least(" + v + ")", Check.INDEX, () -> x.least(v));
         }
@@ -424,7 +434,9 @@ public final class PromisesTest {
             full.literal(0);
         }
         full.clear();
-        isNew("full rows and clear", full);
+        full.variable();
+        Check.due("no literals are written", 1, () -> full.literal(0));
+        Check.due("no assumptions are left", 1, () -> full.assume(0));
     }
 
     private static void firstNamedIsThrown() {
