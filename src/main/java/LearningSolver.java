@@ -208,10 +208,11 @@ public final class LearningSolver {
             if (other == null) {
                 return;
             }
-            for (int w = 0; w < other.used && w < words.length; w++) {
+            int end = Math.min(other.end(), words.length);
+            for (int w = 0; w < end; w++) {
                 words[w] = other.words[w];
             }
-            used = other.used;
+            used = end;
         }
 
         void addVariable(int v) {
@@ -237,17 +238,19 @@ public final class LearningSolver {
         }
 
         private void dropInner(int distance, long zeros) {
-            for (int w = 0; w < used; w++) {
+            int end = end();
+            for (int w = 0; w < end; w++) {
                 words[w] = (words[w] | words[w] >>> distance) & zeros;
             }
         }
 
         private void dropOuter(int distance) {
-            if (distance >= used) {
+            int end = end();
+            if (distance >= end) {
                 return;
             }
             int kept = 0;
-            for (int w = 0; w + distance < used; w++) {
+            for (int w = 0; w < end - distance; w++) {
                 if ((w & distance) == 0) {
                     words[kept] = words[w] | words[w + distance];
                     kept++;
@@ -257,8 +260,13 @@ public final class LearningSolver {
         }
 
         boolean anyWith(int l) {
-            for (int w = 0; w < used; w++) {
-                if ((words[w] & rowsWith(l, w)) != 0L) {
+            long inner = innerRows(l);
+            int ones = outerOnes(l);
+            int zeros = outerZeros(l);
+            int end = end();
+            for (int w = 0; w < end; w++) {
+                boolean allRows = (w & ones) != 0 || (~w & zeros) != 0;
+                if ((allRows ? words[w] : words[w] & inner) != 0L) {
                     return true;
                 }
             }
@@ -270,22 +278,13 @@ public final class LearningSolver {
             if (first < 0 || distance < 1 || distance > MOST_WORDS) {
                 return false;
             }
-            for (int w = first; w < used; w += distance) {
+            int end = end();
+            for (int w = first; w < end; w += distance) {
                 if ((words[w] & bits) != 0L) {
                     return true;
                 }
             }
             return false;
-        }
-
-        /** Takes out the rows that have the literal false; whether a row is left. */
-        boolean keepWith(int l) {
-            long left = 0L;
-            for (int w = 0; w < used; w++) {
-                words[w] &= rowsWith(l, w);
-                left |= words[w];
-            }
-            return left != 0L;
         }
 
         /**
@@ -294,7 +293,8 @@ public final class LearningSolver {
          */
         int leastRow() {
             long bits = 0L;
-            for (int w = 0; w < used; w++) {
+            int end = end();
+            for (int w = 0; w < end; w++) {
                 bits |= words[w];
             }
             int inner = 0;
@@ -307,7 +307,7 @@ public final class LearningSolver {
                 }
             }
             int word = 0;
-            for (int one = 1; one < used && one < MOST_WORDS; one *= 2) {
+            for (int one = 1; one < end && one < MOST_WORDS; one *= 2) {
                 if (!anyIn(word, 2 * one, bits)) {
                     word |= one;
                 }
@@ -315,37 +315,76 @@ public final class LearningSolver {
             return word << INNER | inner;
         }
 
+        /** Takes out the rows that have the literal false; whether a row is left. */
+        boolean keepWith(int l) {
+            return keepRows(innerRows(l), outerOnes(l), outerZeros(l));
+        }
+
         void keepClause(int[] clause, int length) {
             if (clause == null) {
                 return;
             }
-            for (int w = 0; w < used; w++) {
-                long kept = 0L;
-                for (int i = 0; i < length && i < clause.length; i++) {
-                    kept |= rowsWith(clause[i], w);
-                }
-                words[w] &= kept;
+            long inner = 0L;
+            int ones = 0;
+            int zeros = 0;
+            for (int i = 0; i < length && i < clause.length; i++) {
+                inner |= innerRows(clause[i]);
+                ones |= outerOnes(clause[i]);
+                zeros |= outerZeros(clause[i]);
             }
+            keepRows(inner, ones, zeros);
+        }
+
+        /**
+         * Keeps the inner rows in each word, but all rows in a word whose number has a 1 where ones
+         * has it, or a 0 where zeros has a 1; whether a row is left.
+         */
+        private boolean keepRows(long inner, int ones, int zeros) {
+            long left = 0L;
+            int end = end();
+            for (int w = 0; w < end; w++) {
+                if ((w & ones) == 0 && (~w & zeros) == 0) {
+                    words[w] &= inner;
+                }
+                left |= words[w];
+            }
+            return left != 0L;
         }
 
         int count() {
             int rows = 0;
-            for (int w = 0; w < used; w++) {
+            int end = end();
+            for (int w = 0; w < end; w++) {
                 rows += Long.bitCount(words[w]);
             }
             return rows;
         }
 
-        /** The bits of word w whose rows have the literal true. */
-        private static long rowsWith(int l, int w) {
+        private int end() {
+            return Math.min(used, words.length);
+        }
+
+        /** The bits of each word whose rows have the literal true; none if word numbers tell it. */
+        private static long innerRows(int l) {
             int v = l >> 1;
-            long ones;
-            if (v >= 0 && v < INNER_ONES.length) {
-                ones = INNER_ONES[v];
-            } else {
-                ones = (w >> (v - INNER) & 1) != 0 ? -1L : 0L;
+            if (v < 0 || v >= INNER_ONES.length) {
+                return 0L;
             }
-            return (l & 1) == 0 ? ones : ~ones;
+            return (l & 1) == 0 ? INNER_ONES[v] : ~INNER_ONES[v];
+        }
+
+        /** The bit that is 1 in the numbers of the words whose rows have the literal true, if any. */
+        private static int outerOnes(int l) {
+            return (l & 1) == 0 ? outerBit(l >> 1) : 0;
+        }
+
+        /** The bit that is 0 in the numbers of the words whose rows have the literal true, if any. */
+        private static int outerZeros(int l) {
+            return (l & 1) == 0 ? 0 : outerBit(l >> 1);
+        }
+
+        private static int outerBit(int v) {
+            return v >= INNER && v < MOST_VARIABLES ? 1 << (v - INNER) : 0;
         }
     }
 }
