@@ -392,6 +392,8 @@ public final class EdgesTest {
         one.due(2, "assume(15)").due("false", "solve()").due(2, "blame()").due(2, "literal(0)");
         other.due(NONE, "blame()").due("true", "shown()").due(1, "must(1)").due(1, "ways(0, 1)");
         one.due("true", "proved()").due(3, "literal(0)").due(2, "must(0)").due(2, "ways(0, 1)");
+        other.due(1, "literal(1)");
+        one.due(2, "close()").due(1, "must(0)").due(1, "ways(0, 1)");
         new Story(sentence).due("true", "solve()").due(0, "variable()").due(2, "must(0)");
     }
 
@@ -715,7 +717,7 @@ public final class EdgesTest {
         assume(x, 2).due("true", "solve()").leastIs("011");
         clause(x, 5).leastIs("011").due("true", "solve()").leastIs("100");
         assume(x, 2, 3).leastIs("100").take("must(1)", "ways(0, 3)", "literal(0)").leastIs("100");
-        clause(x).leastIs("100").take("variable()").leastIs("100-");
+        x.take("close()", "close()").leastIs("100").take("variable()").leastIs("100-");
         x.due("false", "solve()").leastIs("----");
     }
 
@@ -899,7 +901,12 @@ public final class EdgesTest {
         Story closed = new Story(sentence).times(500, "close()").take("clear()");
         closed.isAsNew();
         closed.due(1, "close()");
-        Story last = with(sentence, 16).times(64, "assume(31)").take("solve()", "clear()");
-        last.isAsNew();
+        with(sentence, 16).times(64, "assume(31)").take("solve()", "clear()").isAsNew();
+        // More than 512 calls: nor do the literals count that were there.
+        Story literals = with(sentence, 1).ofAnyLength();
+        for (int c = 0; c < 100; c++) {
+            clause(literals.times(40, "literal(0)"));
+        }
+        literals.take("clear()").isAsNew();
     }
 }
