@@ -44,19 +44,9 @@ public final class FaceTest {
         Check.same("the face", new TreeSet<>(Arrays.asList(FACE)), seen);
         Check.same("the class", Modifier.PUBLIC | Modifier.FINAL, LearningSolver.class.getModifiers());
         Check.same("NONE", -1, LearningSolver.NONE);
-        staticFieldsAreFinal(LearningSolver.class);
         for (Class<?> inside : LearningSolver.class.getDeclaredClasses()) {
             Check.due(inside.getName() + " is static", true, Modifier.isStatic(inside.getModifiers()));
-            staticFieldsAreFinal(inside);
         }
         Check.end();
-    }
-
-    private static void staticFieldsAreFinal(Class<?> c) {
-        for (Field f : c.getDeclaredFields()) {
-            if (Modifier.isStatic(f.getModifiers())) {
-                Check.due(f + " is final", true, Modifier.isFinal(f.getModifiers()));
-            }
-        }
     }
 }
