@@ -88,6 +88,7 @@ public final class EdgesTest {
         waysNotSoManyFromThereOn();
         waysFromForN0();
         waysOfNoSolution();
+        askingCallsChangeNothing();
         shownAndProvedBeforeTheFirstSolve();
         shownAndProvedAfterClear();
         shownAfterLaterClauses();
@@ -118,7 +119,8 @@ public final class EdgesTest {
     /** Objects in all kinds of states, each with much that a refused call could spoil. */
     private static List<Story> states(String sentence) {
         return Arrays.asList(new Story(sentence), cleared(sentence), neverSolved(sentence),
-            solved(sentence), unsolved(sentence), unsolvable(sentence), full(sentence));
+            solved(sentence), unsolved(sentence), unsolvable(sentence), full(sentence),
+            fullLater(sentence));
     }
 
     private static Story cleared(String sentence) {
@@ -160,6 +162,14 @@ public final class EdgesTest {
         }
         assume(x, 1, 31).take("solve()").times(20, "literal(1)").times(20, "literal(31)");
         return x.times(32, "assume(1)").times(32, "assume(31)");
+    }
+
+    /** The same, but most variables came after a solve() that answered true. */
+    private static Story fullLater(String sentence) {
+        Story x = with(sentence, 5);
+        clause(x, 4, 0);
+        assume(x, 1, 6).take("solve()").times(11, "variable()").times(40, "literal(30)");
+        return x.times(64, "assume(31)");
     }
 
     private static int[] noLiterals(int variables) {
@@ -410,6 +420,7 @@ public final class EdgesTest {
         x.refused(ARGUMENT, "must(32)").refused(INDEX, "least(16)").refused(INDEX, "ways(9, 8)");
         x.refused(STATE, "variable()");
         full(sentence).refused(STATE, "variable()");
+        fullLater(sentence).leastIs("00110-----------").refused(STATE, "variable()");
         Story none = with(sentence, 16).take("close()", "solve()", "assume(31)", "literal(30)");
         none.refused(STATE, "variable()");
         Story again = with(sentence, 16).take("clear()");
@@ -452,6 +463,7 @@ public final class EdgesTest {
         assume(x, 1).due("true", "solve()").leastIs("000");
         assume(x, 1, 2).due("false", "solve()").due(2, "blame()");
         full(sentence).refused(STATE, "literal(0)").refused(STATE, "literal(31)");
+        fullLater(sentence).refused(STATE, "literal(0)").refused(STATE, "literal(31)");
     }
 
     /** These three need more than 512 calls: a literal is a call. */
@@ -517,10 +529,11 @@ public final class EdgesTest {
     private static void thereAre500ThatCanAllBeTrue() {
         Story x = with("close: there are 500 that can all be true", 3).ofAnyLength();
         for (int c = 1; c <= 500; c++) {
-            x.take("literal(" + (c < 500 ? 0 : 2) + ")").due(c, "close()");
+            x.take("literal(" + (c < 500 ? 2 : 4) + ")").due(c, "close()");
         }
         x.take("solve()", "literal(3)").refused(STATE, "close()").due("true", "solve()");
-        x.leastIs("110").due(1, "must(2)").due(2, "literal(1)").refused(STATE, "close()");
+        x.leastIs("011").due(1, "must(4)").due(2, "literal(1)").refused(STATE, "close()");
+        x.due(2, "must(0)").due(2, "must(1)").due(2, "ways(0, 3)");
         x.take("clear()", "variable()").due(1, "literal(0)").due(1, "close()");
     }
 
@@ -569,6 +582,7 @@ public final class EdgesTest {
             x.due(round == 1 ? 64 : -1, "blame()");
         }
         full(sentence).refused(STATE, "assume(0)").refused(STATE, "assume(31)");
+        fullLater(sentence).refused(STATE, "assume(0)").refused(STATE, "assume(31)");
     }
 
     // ---- Promise 6
@@ -845,6 +859,19 @@ public final class EdgesTest {
             Story x = clause(with("ways: in solutions", variables));
             for (int n = 0; n <= 8 && n <= variables; n++) {
                 x.due(0, "ways(0, " + n + ")").due(0, "ways(" + (variables - n) + ", " + n + ")");
+            }
+        }
+    }
+
+    // ---- Promises 7 to 12
+
+    private static void askingCallsChangeNothing() {
+        for (Story x : states("No state change is described for a call that only asks")) {
+            x.changesNothing("blame()").changesNothing("shown()").changesNothing("proved()");
+            x.changesNothing("ways(0, 0)").changesNothing("ways(0, " + Math.min(8, x.variables()) + ")");
+            for (int v = 0; v < x.variables(); v += 5) {
+                x.changesNothing("least(" + v + ")").changesNothing("ways(" + v + ", 1)");
+                x.changesNothing("must(" + 2 * v + ")").changesNothing("must(" + (2 * v + 1) + ")");
             }
         }
     }

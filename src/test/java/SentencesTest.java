@@ -265,6 +265,8 @@ public final class SentencesTest {
         says("A new variable: its number.");
         run("variable = 0; variable = 1; literal(3); close; assume(2); solve; variable = 2; must(4) = 2;"
             + " must(2) = 0; least = ---; ways(0, 3) = 4; clear; variable = 0");
+        run("variable; literal(0); close = 1; literal(1) = 1; assume(0) = 1; assume(1) = 2; solve; assume(1) = 1;"
+            + " variable = 1; blame = 2; proved = true; literal(1) = 2; assume(1) = 2; close = 2; must(0) = -1");
         for (int v = 1; v < 16; v++) {
             run(v + " x variable; literal(" + (2 * v - 1) + "); close; literal(" + (2 * v - 2) + "); variable"
                 + " = " + v + "; must(" + (2 * v - 2) + ") = 0; must(" + 2 * v + ") = 2; literal(" + 2 * v
@@ -290,7 +292,17 @@ public final class SentencesTest {
             + " literal(0) = 1");
         String full = "2 x variable; " + "40 x literal(0); close; ".repeat(99) + "39 x literal(0); close; ";
         longRun(full + "literal(2) = 1; literal(0) ! State; literal(4) ! Argument; close = 101;"
-            + " literal(0) ! State; must(2) = 1; clear; variable; literal(0) = 1");
+            + " literal(0) ! State; must(2) = 1; clear; " + full + "literal(2) = 1; literal(0) ! State");
+        String others = "assume(0); solve = true; least(0) = 1; blame = -1; shown; assume(1); solve = false;"
+            + " least(0) = -1; blame = 1; proved; must(0) = 1; must(1) = 0; must(2) = 2; ways(0, 2) = 2;"
+            + " least(16) ! Index; must(32) ! Argument; ways(0, 9) ! Argument; ways(17, 0) ! Index;"
+            + " literal(32) ! Argument; 64 x assume(0); assume(0) ! State; solve = true; ";
+        longRun(full + "14 x variable; variable ! State; " + others + "literal(0) = 1; literal(0) ! State; "
+            + others + "variable ! State; literal(0) ! State; close; literal(0) ! State");
+        longRun(full + "literal(0) = 1; solve = true; variable; assume(1) = 1; literal(0) ! State; least = 10-;"
+            + " assume(1) = 2; solve = false; 13 x variable; literal(0) ! State; blame = 1");
+        longRun("variable; " + "8 x literal(0); close; ".repeat(499) + "7 x literal(0); close = 500;"
+            + " close ! State; literal(0) = 1; close ! State; literal(0) ! State");
     }
 
     private void close() {

@@ -72,7 +72,11 @@ final class Story {
 
     /** The call throws just this, and all is then as if it had not been made. */
     Story refused(String exception, String text) {
-        throwsOften(1, exception, text);
+        return throwsOften(1, exception, text).changesNothing(text);
+    }
+
+    /** All later answers are those of an object on which the call was not made. */
+    Story changesNothing(String text) {
         List<String> withIt = new ArrayList<>(taken);
         withIt.add(text);
         for (List<String> later : laterCalls(variables())) {
@@ -158,12 +162,21 @@ final class Story {
         all.add(Arrays.asList("close()", "literal(0)", "literal(0)", "solve()", "blame()", "close()"));
         all.add(Arrays.asList("clear()", "blame()", "shown()", "least(0)", "solve()", "variable()",
             "literal(0)", "assume(0)", "close()"));
+        all.add(leastOfEach(n));
         all.add(look(n));
         all.add(joined(Arrays.asList("solve()"), look(n)));
         all.add(joined(Arrays.asList("close()", "solve()"), look(n)));
         all.add(joined(many(42, "literal(0)"), Arrays.asList("close()"), look(n)));
         all.add(joined(many(66, "assume(1)"), Arrays.asList("solve()"), look(n)));
         all.add(joined(many(18, "variable()"), look(16)));
+        return all;
+    }
+
+    private static List<String> leastOfEach(int n) {
+        List<String> all = new ArrayList<>();
+        for (int v = 0; v < n; v++) {
+            all.add("least(" + v + ")");
+        }
         return all;
     }
 
